@@ -557,7 +557,7 @@ public final class TightFive {
 
     private int pauseNeeded(Scene at) {
         int tenfold = 10 * heads();
-        return at.begun && at.lastLaugh > 0 && tenfold > 0 ? at.lastLaugh / tenfold : 0;
+        return at.lastLaugh > 0 && tenfold > 0 ? at.lastLaugh / tenfold : 0;
     }
 
     private void perform(Scene at, Spot spot, Joke joke, int wait) {
@@ -954,7 +954,6 @@ public final class TightFive {
         int seconds;
         int laughs;
         int lastLaugh;
-        boolean begun;
         int groans;
         int parts;
         int laughedParts;
@@ -971,15 +970,14 @@ public final class TightFive {
             seconds = other.seconds;
             laughs = other.laughs;
             lastLaugh = other.lastLaugh;
-            begun = other.begun;
         }
 
         void beginSet(int fullEnergy) {
             energy = fullEnergy;
             seconds = 0;
             laughs = 0;
+            // The first joke has no laugh ahead of it to step on.
             lastLaugh = 0;
-            begun = false;
         }
 
         void beginJoke(int wait) {
@@ -1000,7 +998,6 @@ public final class TightFive {
         void endJoke(int joke) {
             toldJokes |= 1 << joke;
             energy = Math.max(0, energy - 5);
-            begun = true;
         }
 
         boolean wasTold(int joke) {

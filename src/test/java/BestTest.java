@@ -12,6 +12,7 @@ public final class BestTest {
         lowerNumbers();
         secondsAndWaits();
         fromNowOn();
+        behindGroans();
         tagsAsTold();
         waitOfTwenty();
         persona();
@@ -56,6 +57,9 @@ public final class BestTest {
         minded.table(1, 9, 0, 1);
         Check.is("only laughs below 0", minded.best(600), 0);
         rowIs("only laughs below 0", minded, 600);
+        TightFive asked = club(20);
+        rowIs("10 seconds", asked, 10, 0);
+        rowIs("9 seconds, asked behind 10", asked, 9);
     }
 
     private static void fewerJokes() {
@@ -77,6 +81,7 @@ public final class BestTest {
         rowIs("one of like jokes", club, 10, 0);
         rowIs("two of like jokes", club, 22, 0, 1);
         rowIs("three of like jokes", club, 600, 0, 1, 2);
+        rowIs("six jokes", club(20, 20, 20, 20, 20, 20), 600, 0, 1, 2, 3, 4, 5);
         TightFive last = club(10, 30, 30);
         rowIs("the greater ones", last, 23, 1, 2);
     }
@@ -100,6 +105,19 @@ public final class BestTest {
         rowIs("all, one of which is told again", club, 600, 1, 0, 2);
         club.heckle(0, 'l');
         Check.is("with the heckler", club.best(12), 16);
+    }
+
+    private static void behindGroans() {
+        TightFive club = club(50, 20);
+        club.joke(2, 2, 0, 20, 10);
+        club.give(0, 2);
+        club.end();
+        club.table(9, 0, 0, 1);
+        club.book(0, 0, 600);
+        club.next();
+        Check.is("9 groans of 50", club.tell(0, 0), 50 - 450);
+        Check.is("no wait below 0", club.best(9), 0);
+        Check.is("no wait", club.best(10) > 0, true);
     }
 
     private static void tagsAsTold() {
@@ -162,6 +180,7 @@ public final class BestTest {
         Check.fails("place -1", ELEMENT, Clubs::running, c -> c.bestAt(60, -1));
         Check.fails("no such place", ELEMENT, Clubs::running, c -> c.bestAt(600, 3));
         Check.fails("a place beyond all jokes", ELEMENT, Clubs::running, c -> c.bestAt(600, 6));
+        Check.fails("place in 5 seconds", ELEMENT, Clubs::running, c -> c.bestAt(5, 0));
         Check.is("the least seconds", club(20).best(5), 0);
         Check.is("the most seconds", club(20).best(600), 20);
     }

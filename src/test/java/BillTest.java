@@ -51,7 +51,8 @@ public final class BillTest {
         Check.fails("slot 100", ARGUMENT, Clubs::open, c -> c.book(0, 100, 60));
         Check.fails("59 seconds", ARGUMENT, Clubs::open, c -> c.book(0, 0, 59));
         Check.fails("1801 seconds", ARGUMENT, Clubs::open, c -> c.book(0, 0, 1801));
-        Check.fails("booked already", UNSUPPORTED, Clubs::booked, c -> c.book(1, 0, 60));
+        Check.fails("the first one booked", UNSUPPORTED, Clubs::booked, c -> c.book(0, 0, 60));
+        Check.fails("the last one booked", UNSUPPORTED, Clubs::booked, c -> c.book(1, 0, 60));
         Check.fails("on already", UNSUPPORTED, Clubs::running, c -> c.book(0, 0, 60));
         Check.fails("on already, out of range", ARGUMENT, Clubs::running, c -> c.book(0, 0, 59));
         Check.fails("banned", UNSUPPORTED, () -> closedWithGroans(12), c -> c.book(0, 0, 60));

@@ -27,9 +27,16 @@ final class Check {
             call.accept(club);
         } catch (RuntimeException e) {
             thrown = e.getClass().getName();
+            is(what + " is thrown by the program itself", isOwn(e), true);
         }
         is(what + " throws", thrown, due.getName());
         is(what + " changes nothing", stateOf(club), stateOf(setting.get()));
+    }
+
+    /** Whether a throw statement of the class threw it, and not the machine or its library. */
+    static boolean isOwn(Throwable thrown) {
+        StackTraceElement[] trace = thrown.getStackTrace();
+        return trace.length > 0 && trace[0].getClassName().startsWith("TightFive");
     }
 
     /** Ends the test: with exit code 1 if an answer was not the one that is due. */

@@ -6,6 +6,7 @@ public final class MoodTest {
         upperEndByEachStep();
         lowerEndByEachStep();
         nights();
+        laterTables();
         meanMood();
         Check.finish("MoodTest");
     }
@@ -104,6 +105,17 @@ public final class MoodTest {
         club.end();
         club.close();
         moodsAre("halved toward 0", club, -5, -15);
+    }
+
+    private static void laterTables() {
+        TightFive club = club(1, 0);
+        club.table(1, 9, 0, 0);
+        club.tell(0, 0);
+        club.table(1, 9, 0, 0);
+        Check.is("one that came behind a laugh below 0", club.mood(1), 0);
+        answerTimes(club, 1, 0, 'j');
+        club.table(1, 9, 0, 0);
+        Check.is("one that came behind an answer", club.mood(2), 0);
     }
 
     private static void meanMood() {

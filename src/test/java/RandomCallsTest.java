@@ -50,6 +50,7 @@ public final class RandomCallsTest {
                 Check.is(call, answer, method.invoke(spared, arguments));
             } catch (InvocationTargetException e) {
                 Check.is(call + " lists " + e.getCause(), lists(method, e.getCause()), true);
+                Check.is(call + " itself throws", Check.isOwn(e.getCause()), true);
             }
         }
         Check.is("run " + which + " is true", club.isTrue(), true);

@@ -107,6 +107,10 @@ public final class SumsTest {
         club.next();
         club.tell(1, 0);
         Check.is("of the next night", club.laughShare(), 0.0f);
+        TightFive quiet = Clubs.plain();
+        quiet.rewrite(0, 1);
+        quiet.tell(0, 0);
+        Check.is("a laugh of 1 is above 0", quiet.laughShare(), 1.0f);
         Check.fails("none told", ArithmeticException.class, Clubs::booked, TightFive::laughShare);
         Check.fails("none told in this night", ArithmeticException.class, () -> {
             TightFive closed = Clubs.running();

@@ -60,6 +60,9 @@ public final class TellTest {
         club.book(0, 0, 60);
         club.next();
         Check.is("energy 49 again, mood 18, halved", club.tell(0, 0), (20 + 4 + 3) / 2);
+        TightFive even = soloWithTable(2, 1, 15, 0);
+        even.tell(0, 0);
+        Check.is("energy 10", even.tell(1, 0), 1 + 1);
         TightFive tired = soloWithTable(4, 1, 4, 0);
         for (int i = 0; i < 4; i++) {
             Check.is("energy stays at 0", tired.tell(i, 0), 1);
@@ -336,6 +339,9 @@ public final class TellTest {
         Check.is("the last part", club.laughOf(0), 0);
         Check.is("the second tag is not told", club.seconds(), 4 + 10 + 5);
         Check.is("4 more by the joke, 5 less by the tag", club.mood(0), -1);
+        TightFive quiet = soloWithTable(1, 1, 0, 0);
+        quiet.tag(0, 2, 5);
+        Check.is("a laugh of 1 is above 0", quiet.tell(0, 0), 1 + 2);
         TightFive three = soloWithTable(1, 20, 0, 0);
         three.tag(0, 10, 5);
         three.tag(0, 10, 6);
