@@ -2,10 +2,6 @@ import java.util.NoSuchElementException;
 
 /** Promises 24, 25 and 42: best, bestAt, isTrue. */
 public final class BestTest {
-    private static final Class<IllegalArgumentException> ARGUMENT = IllegalArgumentException.class;
-    private static final Class<IllegalStateException> STATE = IllegalStateException.class;
-    private static final Class<NoSuchElementException> ELEMENT = NoSuchElementException.class;
-
     public static void main(String[] args) {
         emptyRow();
         fewerJokes();
@@ -170,17 +166,17 @@ public final class BestTest {
     }
 
     private static void wrongCalls() {
-        Check.fails("best of 4 seconds", ARGUMENT, Clubs::running, c -> c.best(4));
-        Check.fails("best of 601 seconds", ARGUMENT, Clubs::running, c -> c.best(601));
-        Check.fails("best of 4 seconds of nobody", ARGUMENT, Clubs::booked, c -> c.best(4));
-        Check.fails("best of nobody", STATE, Clubs::booked, c -> c.best(5));
-        Check.fails("place in 4 seconds", ARGUMENT, Clubs::running, c -> c.bestAt(4, -1));
-        Check.fails("place in 601 seconds", ARGUMENT, Clubs::running, c -> c.bestAt(601, 0));
-        Check.fails("place of nobody", STATE, Clubs::booked, c -> c.bestAt(60, -1));
-        Check.fails("place -1", ELEMENT, Clubs::running, c -> c.bestAt(60, -1));
-        Check.fails("no such place", ELEMENT, Clubs::running, c -> c.bestAt(600, 3));
-        Check.fails("a place beyond all jokes", ELEMENT, Clubs::running, c -> c.bestAt(600, 6));
-        Check.fails("place in 5 seconds", ELEMENT, Clubs::running, c -> c.bestAt(5, 0));
+        Check.fails("best of 4 seconds", Check.ARGUMENT, Clubs::running, c -> c.best(4));
+        Check.fails("best of 601 seconds", Check.ARGUMENT, Clubs::running, c -> c.best(601));
+        Check.fails("best of 4 seconds of nobody", Check.ARGUMENT, Clubs::booked, c -> c.best(4));
+        Check.fails("best of nobody", Check.STATE, Clubs::booked, c -> c.best(5));
+        Check.fails("place in 4 seconds", Check.ARGUMENT, Clubs::running, c -> c.bestAt(4, -1));
+        Check.fails("place in 601 seconds", Check.ARGUMENT, Clubs::running, c -> c.bestAt(601, 0));
+        Check.fails("place of nobody", Check.STATE, Clubs::booked, c -> c.bestAt(60, -1));
+        Check.fails("place -1", Check.ELEMENT, Clubs::running, c -> c.bestAt(60, -1));
+        Check.fails("no such place", Check.ELEMENT, Clubs::running, c -> c.bestAt(600, 3));
+        Check.fails("a place beyond all jokes", Check.ELEMENT, Clubs::running, c -> c.bestAt(600, 6));
+        Check.fails("place in 5 seconds", Check.ELEMENT, Clubs::running, c -> c.bestAt(5, 0));
         Check.is("the least seconds", club(20).best(5), 0);
         Check.is("the most seconds", club(20).best(600), 20);
     }

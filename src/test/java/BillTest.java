@@ -1,13 +1,5 @@
-import java.util.NoSuchElementException;
-
 /** Promises 12 to 14, 18 and 36: book, next, on, isAtLight, isBanned. */
 public final class BillTest {
-    private static final Class<IllegalArgumentException> ARGUMENT = IllegalArgumentException.class;
-    private static final Class<IllegalStateException> STATE = IllegalStateException.class;
-    private static final Class<IndexOutOfBoundsException> INDEX = IndexOutOfBoundsException.class;
-    private static final Class<UnsupportedOperationException> UNSUPPORTED =
-            UnsupportedOperationException.class;
-
     public static void main(String[] args) {
         bookAndNext();
         bookWrongly();
@@ -45,20 +37,20 @@ public final class BillTest {
     }
 
     private static void bookWrongly() {
-        Check.fails("comedian -1", INDEX, Clubs::open, c -> c.book(-1, -1, 0));
-        Check.fails("no comedian", INDEX, Clubs::open, c -> c.book(2, 0, 60));
-        Check.fails("slot -1", ARGUMENT, Clubs::open, c -> c.book(0, -1, 60));
-        Check.fails("slot 100", ARGUMENT, Clubs::open, c -> c.book(0, 100, 60));
-        Check.fails("59 seconds", ARGUMENT, Clubs::open, c -> c.book(0, 0, 59));
-        Check.fails("1801 seconds", ARGUMENT, Clubs::open, c -> c.book(0, 0, 1801));
-        Check.fails("the first one booked", UNSUPPORTED, Clubs::booked, c -> c.book(0, 0, 60));
-        Check.fails("the last one booked", UNSUPPORTED, Clubs::booked, c -> c.book(1, 0, 60));
-        Check.fails("on already", UNSUPPORTED, Clubs::running, c -> c.book(0, 0, 60));
-        Check.fails("on already, out of range", ARGUMENT, Clubs::running, c -> c.book(0, 0, 59));
-        Check.fails("banned", UNSUPPORTED, () -> closedWithGroans(12), c -> c.book(0, 0, 60));
-        Check.fails("somebody is on", STATE, Clubs::running, TightFive::next);
-        Check.fails("nobody is booked, somebody is on", STATE, Clubs::plain, TightFive::next);
-        Check.fails("nobody is booked", NoSuchElementException.class, Clubs::open, TightFive::next);
+        Check.fails("comedian -1", Check.INDEX, Clubs::open, c -> c.book(-1, -1, 0));
+        Check.fails("no comedian", Check.INDEX, Clubs::open, c -> c.book(2, 0, 60));
+        Check.fails("slot -1", Check.ARGUMENT, Clubs::open, c -> c.book(0, -1, 60));
+        Check.fails("slot 100", Check.ARGUMENT, Clubs::open, c -> c.book(0, 100, 60));
+        Check.fails("59 seconds", Check.ARGUMENT, Clubs::open, c -> c.book(0, 0, 59));
+        Check.fails("1801 seconds", Check.ARGUMENT, Clubs::open, c -> c.book(0, 0, 1801));
+        Check.fails("the first one booked", Check.UNSUPPORTED, Clubs::booked, c -> c.book(0, 0, 60));
+        Check.fails("the last one booked", Check.UNSUPPORTED, Clubs::booked, c -> c.book(1, 0, 60));
+        Check.fails("on already", Check.UNSUPPORTED, Clubs::running, c -> c.book(0, 0, 60));
+        Check.fails("on already, out of range", Check.ARGUMENT, Clubs::running, c -> c.book(0, 0, 59));
+        Check.fails("banned", Check.UNSUPPORTED, () -> closedWithGroans(12), c -> c.book(0, 0, 60));
+        Check.fails("somebody is on", Check.STATE, Clubs::running, TightFive::next);
+        Check.fails("nobody is booked, somebody is on", Check.STATE, Clubs::plain, TightFive::next);
+        Check.fails("nobody is booked", Check.ELEMENT, Clubs::open, TightFive::next);
     }
 
     private static void onceMore() {
@@ -102,7 +94,7 @@ public final class BillTest {
             other.tell(0, 20);
         }
         Check.is("none are left", other.isAtLight(), true);
-        Check.fails("nobody is on", STATE, Clubs::booked, TightFive::isAtLight);
+        Check.fails("nobody is on", Check.STATE, Clubs::booked, TightFive::isAtLight);
     }
 
     /** A night in which the only comedian had so many groans. */
@@ -143,8 +135,8 @@ public final class BillTest {
         club.close();
         Check.is("in the third night", club.isBanned(0), false);
         Check.is("booked in the third night", club.book(0, 0, 60), 1);
-        Check.fails("comedian -1", INDEX, Clubs::running, c -> c.isBanned(-1));
-        Check.fails("no comedian", INDEX, Clubs::running, c -> c.isBanned(2));
+        Check.fails("comedian -1", Check.INDEX, Clubs::running, c -> c.isBanned(-1));
+        Check.fails("no comedian", Check.INDEX, Clubs::running, c -> c.isBanned(2));
         TightFive spread = closedWithGroans(11);
         spread.book(0, 0, 60);
         spread.next();

@@ -1,8 +1,16 @@
+import java.util.NoSuchElementException;
 import java.util.function.Consumer;
 import java.util.function.Supplier;
 
 /** What the tests share: they count the answers that are not due, and tell each of them. */
 final class Check {
+    static final Class<IllegalArgumentException> ARGUMENT = IllegalArgumentException.class;
+    static final Class<IllegalStateException> STATE = IllegalStateException.class;
+    static final Class<IndexOutOfBoundsException> INDEX = IndexOutOfBoundsException.class;
+    static final Class<NoSuchElementException> ELEMENT = NoSuchElementException.class;
+    static final Class<UnsupportedOperationException> UNSUPPORTED = UnsupportedOperationException.class;
+    static final Class<ArithmeticException> ARITHMETIC = ArithmeticException.class;
+
     private static int right = 0;
     private static int wrong = 0;
 

@@ -1,11 +1,5 @@
-import java.util.NoSuchElementException;
-
 /** Promises 26 to 30: told, hadBy, firstBy, firstNight, stolen. */
 public final class HadTest {
-    private static final Class<IllegalArgumentException> ARGUMENT = IllegalArgumentException.class;
-    private static final Class<IndexOutOfBoundsException> INDEX = IndexOutOfBoundsException.class;
-    private static final Class<NoSuchElementException> ELEMENT = NoSuchElementException.class;
-
     public static void main(String[] args) {
         told();
         hadBy();
@@ -53,8 +47,8 @@ public final class HadTest {
         club.end();
         club.close();
         Check.is("in the next night", club.told(0), 0);
-        Check.fails("joke -1", INDEX, Clubs::running, c -> c.told(-1));
-        Check.fails("no joke", INDEX, Clubs::running, c -> c.told(3));
+        Check.fails("joke -1", Check.INDEX, Clubs::running, c -> c.told(-1));
+        Check.fails("no joke", Check.INDEX, Clubs::running, c -> c.told(3));
     }
 
     private static TightFive bothTold() {
@@ -71,14 +65,14 @@ public final class HadTest {
     private static void hadBy() {
         TightFive club = bothTold();
         Check.is("had as the set ended", club.hadBy(15), 1);
-        Check.fails("not had ahead of the end", ELEMENT, HadTest::bothTold, c -> c.hadBy(0));
+        Check.fails("not had ahead of the end", Check.ELEMENT, HadTest::bothTold, c -> c.hadBy(0));
         club.end();
         Check.is("had by who had it ahead", club.hadBy(15), 1);
         Check.is("had by the other one", club.hadBy(0), 0);
-        Check.fails("subject -1", ARGUMENT, Clubs::running, c -> c.hadBy(-1));
-        Check.fails("subject 16", ARGUMENT, Clubs::running, c -> c.hadBy(16));
-        Check.fails("nobody", ELEMENT, Clubs::running, c -> c.hadBy(5));
-        Check.fails("had in another night", ELEMENT, () -> {
+        Check.fails("subject -1", Check.ARGUMENT, Clubs::running, c -> c.hadBy(-1));
+        Check.fails("subject 16", Check.ARGUMENT, Clubs::running, c -> c.hadBy(16));
+        Check.fails("nobody", Check.ELEMENT, Clubs::running, c -> c.hadBy(5));
+        Check.fails("had in another night", Check.ELEMENT, () -> {
             TightFive closed = bothTold();
             closed.end();
             closed.close();
@@ -104,14 +98,14 @@ public final class HadTest {
         Check.is("the night stays", later.firstNight(99), 0);
         Check.is("of the third night", later.firstBy(0), 1);
         Check.is("the third night", later.firstNight(0), 2);
-        Check.fails("premise -1", ARGUMENT, Clubs::running, c -> c.firstBy(-1));
-        Check.fails("premise 100", ARGUMENT, Clubs::running, c -> c.firstBy(100));
-        Check.fails("nobody", ELEMENT, Clubs::running, c -> c.firstBy(1));
-        Check.fails("the last premise", ELEMENT, Clubs::running, c -> c.firstBy(99));
-        Check.fails("night of premise -1", ARGUMENT, Clubs::running, c -> c.firstNight(-1));
-        Check.fails("night of premise 100", ARGUMENT, Clubs::running, c -> c.firstNight(100));
-        Check.fails("night of nobody", ELEMENT, Clubs::running, c -> c.firstNight(1));
-        Check.fails("night of the last premise", ELEMENT, Clubs::running, c -> c.firstNight(99));
+        Check.fails("premise -1", Check.ARGUMENT, Clubs::running, c -> c.firstBy(-1));
+        Check.fails("premise 100", Check.ARGUMENT, Clubs::running, c -> c.firstBy(100));
+        Check.fails("nobody", Check.ELEMENT, Clubs::running, c -> c.firstBy(1));
+        Check.fails("the last premise", Check.ELEMENT, Clubs::running, c -> c.firstBy(99));
+        Check.fails("night of premise -1", Check.ARGUMENT, Clubs::running, c -> c.firstNight(-1));
+        Check.fails("night of premise 100", Check.ARGUMENT, Clubs::running, c -> c.firstNight(100));
+        Check.fails("night of nobody", Check.ELEMENT, Clubs::running, c -> c.firstNight(1));
+        Check.fails("night of the last premise", Check.ELEMENT, Clubs::running, c -> c.firstNight(99));
     }
 
     private static void stolen() {
@@ -143,7 +137,7 @@ public final class HadTest {
         club.end();
         club.close();
         Check.is("for good", club.stolen(1), 3);
-        Check.fails("comedian -1", INDEX, Clubs::running, c -> c.stolen(-1));
-        Check.fails("no comedian", INDEX, Clubs::running, c -> c.stolen(2));
+        Check.fails("comedian -1", Check.INDEX, Clubs::running, c -> c.stolen(-1));
+        Check.fails("no comedian", Check.INDEX, Clubs::running, c -> c.stolen(2));
     }
 }

@@ -1,11 +1,5 @@
 /** Promises 20 to 22: heckle, answer, level. */
 public final class HecklerTest {
-    private static final Class<IllegalArgumentException> ARGUMENT = IllegalArgumentException.class;
-    private static final Class<IllegalStateException> STATE = IllegalStateException.class;
-    private static final Class<IndexOutOfBoundsException> INDEX = IndexOutOfBoundsException.class;
-    private static final Class<UnsupportedOperationException> UNSUPPORTED =
-            UnsupportedOperationException.class;
-
     public static void main(String[] args) {
         heckle();
         wrongHeckles();
@@ -63,14 +57,14 @@ public final class HecklerTest {
     }
 
     private static void wrongHeckles() {
-        Check.fails("table -1", INDEX, Clubs::running, c -> c.heckle(-1, 'x'));
-        Check.fails("no table", INDEX, Clubs::running, c -> c.heckle(2, 'l'));
-        Check.fails("no table, nobody on", INDEX, Clubs::booked, c -> c.heckle(2, 'l'));
-        Check.fails("no such kind", ARGUMENT, Clubs::running, c -> c.heckle(0, 'L'));
-        Check.fails("the kind of an answer", ARGUMENT, Clubs::running, c -> c.heckle(0, 'j'));
-        Check.fails("no such kind, nobody on", ARGUMENT, Clubs::booked, c -> c.heckle(0, (char) 0));
-        Check.fails("nobody on", STATE, Clubs::booked, c -> c.heckle(0, 'l'));
-        Check.fails("there is one", STATE, Clubs::heckled, c -> c.heckle(1, 'l'));
+        Check.fails("table -1", Check.INDEX, Clubs::running, c -> c.heckle(-1, 'x'));
+        Check.fails("no table", Check.INDEX, Clubs::running, c -> c.heckle(2, 'l'));
+        Check.fails("no table, nobody on", Check.INDEX, Clubs::booked, c -> c.heckle(2, 'l'));
+        Check.fails("no such kind", Check.ARGUMENT, Clubs::running, c -> c.heckle(0, 'L'));
+        Check.fails("the kind of an answer", Check.ARGUMENT, Clubs::running, c -> c.heckle(0, 'j'));
+        Check.fails("no such kind, nobody on", Check.ARGUMENT, Clubs::booked, c -> c.heckle(0, (char) 0));
+        Check.fails("nobody on", Check.STATE, Clubs::booked, c -> c.heckle(0, 'l'));
+        Check.fails("there is one", Check.STATE, Clubs::heckled, c -> c.heckle(1, 'l'));
     }
 
     private static void jokeWorks() {
@@ -162,16 +156,16 @@ public final class HecklerTest {
     }
 
     private static void wrongAnswers() {
-        Check.fails("no such way", ARGUMENT, Clubs::heckled, c -> c.answer('w'));
-        Check.fails("no such way, no heckler", ARGUMENT, Clubs::running, c -> c.answer('J'));
-        Check.fails("no heckler", STATE, Clubs::running, c -> c.answer('j'));
-        Check.fails("nobody on", STATE, Clubs::booked, c -> c.answer('i'));
-        Check.fails("no heckler any more", STATE, () -> {
+        Check.fails("no such way", Check.ARGUMENT, Clubs::heckled, c -> c.answer('w'));
+        Check.fails("no such way, no heckler", Check.ARGUMENT, Clubs::running, c -> c.answer('J'));
+        Check.fails("no heckler", Check.STATE, Clubs::running, c -> c.answer('j'));
+        Check.fails("nobody on", Check.STATE, Clubs::booked, c -> c.answer('i'));
+        Check.fails("no heckler any more", Check.STATE, () -> {
             TightFive club = Clubs.heckled();
             club.answer('i');
             return club;
         }, c -> c.answer('d'));
-        Check.fails("the last head", UNSUPPORTED, HecklerTest::lastHead, c -> c.answer('d'));
+        Check.fails("the last head", Check.UNSUPPORTED, HecklerTest::lastHead, c -> c.answer('d'));
         Check.is("the last head can be ignored", lastHead().answer('i'), false);
     }
 

@@ -1,11 +1,5 @@
-import java.util.NoSuchElementException;
-
 /** Promises 31 to 34: price, close, night, got. */
 public final class MoneyTest {
-    private static final Class<IllegalArgumentException> ARGUMENT = IllegalArgumentException.class;
-    private static final Class<IllegalStateException> STATE = IllegalStateException.class;
-    private static final Class<IndexOutOfBoundsException> INDEX = IndexOutOfBoundsException.class;
-
     public static void main(String[] args) {
         price();
         door();
@@ -47,10 +41,10 @@ public final class MoneyTest {
         Check.is("at first", club.price(9999, 100), 0);
         Check.is("the one before", club.price(0, 0), 9999);
         Check.is("0 before", club.price(5, 5), 0);
-        Check.fails("-1 cents", ARGUMENT, Clubs::running, c -> c.price(-1, 0));
-        Check.fails("10000 cents", ARGUMENT, Clubs::running, c -> c.price(10000, 0));
-        Check.fails("share -1", ARGUMENT, Clubs::running, c -> c.price(0, -1));
-        Check.fails("share 101", ARGUMENT, Clubs::running, c -> c.price(0, 101));
+        Check.fails("-1 cents", Check.ARGUMENT, Clubs::running, c -> c.price(-1, 0));
+        Check.fails("10000 cents", Check.ARGUMENT, Clubs::running, c -> c.price(10000, 0));
+        Check.fails("share -1", Check.ARGUMENT, Clubs::running, c -> c.price(0, -1));
+        Check.fails("share 101", Check.ARGUMENT, Clubs::running, c -> c.price(0, 101));
     }
 
     private static void door() {
@@ -63,7 +57,7 @@ public final class MoneyTest {
         club.price(9999, 50);
         Check.is("the price as it closes", club.close(), 15 * 9999);
         Check.is("who was not on", club.got(0), 0L);
-        Check.fails("somebody is on", STATE, Clubs::running, TightFive::close);
+        Check.fails("somebody is on", Check.STATE, Clubs::running, TightFive::close);
         Check.is("without tables", new TightFive().close(), 0);
     }
 
@@ -139,8 +133,8 @@ public final class MoneyTest {
         club.close();
         Check.is("100, and 30 of 40 seconds", club.got(0), 175L);
         Check.is("10 of 40 seconds", club.got(1), 25L);
-        Check.fails("comedian -1", INDEX, Clubs::running, c -> c.got(-1));
-        Check.fails("no comedian", INDEX, Clubs::running, c -> c.got(2));
+        Check.fails("comedian -1", Check.INDEX, Clubs::running, c -> c.got(-1));
+        Check.fails("no comedian", Check.INDEX, Clubs::running, c -> c.got(2));
     }
 
     private static void greatSums() {
@@ -168,7 +162,7 @@ public final class MoneyTest {
         Check.is("the second night", club.night(), 1);
         club.close();
         Check.is("the third night", club.night(), 2);
-        Check.fails("bookings are gone", NoSuchElementException.class, () -> {
+        Check.fails("bookings are gone", Check.ELEMENT, () -> {
             TightFive closed = Clubs.booked();
             closed.close();
             return closed;

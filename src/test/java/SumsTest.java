@@ -1,10 +1,5 @@
-import java.util.NoSuchElementException;
-
 /** Promises 35, 37 to 39 and 41: groans, laughs, rank, laughShare, checksum. */
 public final class SumsTest {
-    private static final Class<IndexOutOfBoundsException> INDEX = IndexOutOfBoundsException.class;
-    private static final Class<NoSuchElementException> ELEMENT = NoSuchElementException.class;
-
     public static void main(String[] args) {
         groans();
         laughs();
@@ -36,8 +31,8 @@ public final class SumsTest {
         club.end();
         club.close();
         Check.is("in the next night", club.groans(0), 0);
-        Check.fails("comedian -1", INDEX, Clubs::running, c -> c.groans(-1));
-        Check.fails("no comedian", INDEX, Clubs::running, c -> c.groans(2));
+        Check.fails("comedian -1", Check.INDEX, Clubs::running, c -> c.groans(-1));
+        Check.fails("no comedian", Check.INDEX, Clubs::running, c -> c.groans(2));
     }
 
     private static void laughs() {
@@ -55,8 +50,8 @@ public final class SumsTest {
         club.table(2, 0, 0, 1);
         Check.is("20 of one, and 3 groans", club.tell(0, 0), -40);
         Check.is("over all nights", club.laughs(0), -10L);
-        Check.fails("comedian -1", INDEX, Clubs::running, c -> c.laughs(-1));
-        Check.fails("no comedian", INDEX, Clubs::running, c -> c.laughs(2));
+        Check.fails("comedian -1", Check.INDEX, Clubs::running, c -> c.laughs(-1));
+        Check.fails("no comedian", Check.INDEX, Clubs::running, c -> c.laughs(2));
     }
 
     private static void rank() {
@@ -80,8 +75,8 @@ public final class SumsTest {
         for (int i = 0; i < due.length; i++) {
             Check.is("20 for 3, below 0 for 1, place " + i, club.rank(i), due[i]);
         }
-        Check.fails("place -1", ELEMENT, Clubs::running, c -> c.rank(-1));
-        Check.fails("no such place", ELEMENT, Clubs::running, c -> c.rank(2));
+        Check.fails("place -1", Check.ELEMENT, Clubs::running, c -> c.rank(-1));
+        Check.fails("no such place", Check.ELEMENT, Clubs::running, c -> c.rank(2));
     }
 
     private static void laughShare() {
@@ -111,8 +106,8 @@ public final class SumsTest {
         quiet.rewrite(0, 1);
         quiet.tell(0, 0);
         Check.is("a laugh of 1 is above 0", quiet.laughShare(), 1.0f);
-        Check.fails("none told", ArithmeticException.class, Clubs::booked, TightFive::laughShare);
-        Check.fails("none told in this night", ArithmeticException.class, () -> {
+        Check.fails("none told", Check.ARITHMETIC, Clubs::booked, TightFive::laughShare);
+        Check.fails("none told in this night", Check.ARITHMETIC, () -> {
             TightFive closed = Clubs.running();
             closed.end();
             closed.close();

@@ -1,13 +1,5 @@
-import java.util.NoSuchElementException;
-
 /** Promises 15 to 17, 19 and 23: tell, laughOf, seconds, end, expect; parts and moods. */
 public final class TellTest {
-    private static final Class<IllegalArgumentException> ARGUMENT = IllegalArgumentException.class;
-    private static final Class<IllegalStateException> STATE = IllegalStateException.class;
-    private static final Class<IndexOutOfBoundsException> INDEX = IndexOutOfBoundsException.class;
-    private static final Class<UnsupportedOperationException> UNSUPPORTED =
-            UnsupportedOperationException.class;
-
     public static void main(String[] args) {
         energy();
         mood();
@@ -358,30 +350,30 @@ public final class TellTest {
     }
 
     private static void wrongTells() {
-        Check.fails("joke -1", INDEX, Clubs::running, c -> c.tell(-1, -1));
-        Check.fails("no joke", INDEX, Clubs::running, c -> c.tell(3, 0));
-        Check.fails("no joke, nobody on", INDEX, Clubs::booked, c -> c.tell(3, 0));
-        Check.fails("wait -1", ARGUMENT, Clubs::running, c -> c.tell(0, -1));
-        Check.fails("wait 21", ARGUMENT, Clubs::running, c -> c.tell(0, 21));
-        Check.fails("wait 21, nobody on", ARGUMENT, Clubs::booked, c -> c.tell(0, 21));
-        Check.fails("nobody on", STATE, Clubs::booked, c -> c.tell(0, 20));
-        Check.fails("a joke they have not", UNSUPPORTED, TellTest::persona, c -> c.tell(2, 0));
-        Check.fails("a subject not allowed", UNSUPPORTED, TellTest::persona, c -> c.tell(1, 0));
+        Check.fails("joke -1", Check.INDEX, Clubs::running, c -> c.tell(-1, -1));
+        Check.fails("no joke", Check.INDEX, Clubs::running, c -> c.tell(3, 0));
+        Check.fails("no joke, nobody on", Check.INDEX, Clubs::booked, c -> c.tell(3, 0));
+        Check.fails("wait -1", Check.ARGUMENT, Clubs::running, c -> c.tell(0, -1));
+        Check.fails("wait 21", Check.ARGUMENT, Clubs::running, c -> c.tell(0, 21));
+        Check.fails("wait 21, nobody on", Check.ARGUMENT, Clubs::booked, c -> c.tell(0, 21));
+        Check.fails("nobody on", Check.STATE, Clubs::booked, c -> c.tell(0, 20));
+        Check.fails("a joke they have not", Check.UNSUPPORTED, TellTest::persona, c -> c.tell(2, 0));
+        Check.fails("a subject not allowed", Check.UNSUPPORTED, TellTest::persona, c -> c.tell(1, 0));
     }
 
     private static void laughOf() {
         TightFive club = Clubs.running();
         club.table(1, 0, 0, 0);
         Check.is("of the tag", club.laughOf(0), 6);
-        Check.fails("table -1", INDEX, Clubs::running, c -> c.laughOf(-1));
-        Check.fails("no table", INDEX, Clubs::running, c -> c.laughOf(2));
-        Check.fails("a table that came later", NoSuchElementException.class, () -> {
+        Check.fails("table -1", Check.INDEX, Clubs::running, c -> c.laughOf(-1));
+        Check.fails("no table", Check.INDEX, Clubs::running, c -> c.laughOf(2));
+        Check.fails("a table that came later", Check.ELEMENT, () -> {
             TightFive later = Clubs.running();
             later.table(1, 0, 0, 0);
             return later;
         }, c -> c.laughOf(2));
-        Check.fails("nothing told", NoSuchElementException.class, Clubs::booked, c -> c.laughOf(0));
-        Check.fails("told in another night", NoSuchElementException.class, () -> {
+        Check.fails("nothing told", Check.ELEMENT, Clubs::booked, c -> c.laughOf(0));
+        Check.fails("told in another night", Check.ELEMENT, () -> {
             TightFive closed = Clubs.running();
             closed.end();
             closed.close();
@@ -404,11 +396,11 @@ public final class TellTest {
         Check.is("with its tag", club.expect(1), 21 + 12);
         Check.is("what is told then", club.tell(1, 20), 33);
         Check.is("nothing changes", askedAll().equals(Check.stateOf(Clubs.heckled())), true);
-        Check.fails("joke -1", INDEX, Clubs::booked, c -> c.expect(-1));
-        Check.fails("no joke", INDEX, Clubs::running, c -> c.expect(3));
-        Check.fails("nobody on", STATE, Clubs::booked, c -> c.expect(0));
-        Check.fails("a joke they have not", UNSUPPORTED, TellTest::persona, c -> c.expect(2));
-        Check.fails("a subject not allowed", UNSUPPORTED, TellTest::persona, c -> c.expect(1));
+        Check.fails("joke -1", Check.INDEX, Clubs::booked, c -> c.expect(-1));
+        Check.fails("no joke", Check.INDEX, Clubs::running, c -> c.expect(3));
+        Check.fails("nobody on", Check.STATE, Clubs::booked, c -> c.expect(0));
+        Check.fails("a joke they have not", Check.UNSUPPORTED, TellTest::persona, c -> c.expect(2));
+        Check.fails("a subject not allowed", Check.UNSUPPORTED, TellTest::persona, c -> c.expect(1));
     }
 
     /** The state of the heckled club behind calls that only ask. */
@@ -431,8 +423,8 @@ public final class TellTest {
         club.tell(1, 20);
         Check.is("of both jokes", club.seconds(), 43);
         Check.is("the sum of the set", club.end(), 41);
-        Check.fails("seconds of nobody", STATE, Clubs::booked, TightFive::seconds);
-        Check.fails("the end of nobody", STATE, Clubs::booked, TightFive::end);
+        Check.fails("seconds of nobody", Check.STATE, Clubs::booked, TightFive::seconds);
+        Check.fails("the end of nobody", Check.STATE, Clubs::booked, TightFive::end);
         TightFive empty = solo(1, 20, 0, 0);
         Check.is("without tables nobody laughs", empty.tell(0, 0), 0);
         Check.is("so the second one needs no wait", empty.tell(0, 0), 0);
