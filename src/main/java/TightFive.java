@@ -1027,11 +1027,11 @@ public final class TightFive {
         }
 
         void swayMoods(int many) {
+            int chill = lastLaugh <= 0 ? 5 : 0;
             for (int i = 0; i < many; i++) {
+                // Two steps, since each one keeps the mood in its range.
                 setMood(i, moodOf(i) + laughAt(i) / 4);
-            }
-            if (lastLaugh <= 0) {
-                shiftMoods(many, -5);
+                setMood(i, moodOf(i) - chill);
             }
         }
 

@@ -41,6 +41,17 @@ final class Check {
         is(what + " changes nothing", stateOf(club), stateOf(setting.get()));
     }
 
+    /** The call has to answer, and may not throw. */
+    static void answers(String what, Supplier<TightFive> setting, Consumer<TightFive> call) {
+        String thrown = "nothing";
+        try {
+            call.accept(setting.get());
+        } catch (RuntimeException e) {
+            thrown = e.getClass().getName();
+        }
+        is(what + " throws", thrown, "nothing");
+    }
+
     /** Whether a throw statement of the class threw it, and not the machine or its library. */
     static boolean isOwn(Throwable thrown) {
         StackTraceElement[] trace = thrown.getStackTrace();
@@ -55,7 +66,7 @@ final class Check {
         }
     }
 
-    /** All that a club answers, some 180 calls; the club is of no use behind it. */
+    /** All that a club answers, some 340 calls; the club is of no use behind it. */
     static String stateOf(TightFive club) {
         StringBuilder text = new StringBuilder();
         for (int i = 0; i < 16; i++) {
@@ -111,6 +122,23 @@ final class Check {
         note(text, club::close);
         noteComedians(text, club);
         note(text, () -> club.price(0, 0));
+        for (int i = 0; i < 6; i++) {
+            noteSet(text, club, i);
+        }
+    }
+
+    // What jokes, tags, comedians and tables are is seen by what each one's jokes would do.
+    private static void noteSet(StringBuilder text, TightFive club, int comedian) {
+        note(text, () -> club.book(comedian, 0, 60));
+        note(text, club::next);
+        for (int i = 0; i < 16; i++) {
+            int number = i;
+            note(text, () -> club.expect(number));
+        }
+        note(text, () -> club.best(600));
+        note(text, () -> club.heckle(0, 'l'));
+        note(text, () -> club.answer('j'));
+        note(text, club::end);
     }
 
     private static void note(StringBuilder text, Supplier<Object> call) {

@@ -26,7 +26,7 @@ public final class RandomCallsTest {
             }
         }
         test.methods.sort(Comparator.comparing(Method::getName));
-        for (int i = 0; i < 150; i++) {
+        for (int i = 0; i < 300; i++) {
             test.run(i);
         }
         Check.finish("RandomCallsTest");
@@ -41,7 +41,7 @@ public final class RandomCallsTest {
     private void run(int which) throws IllegalAccessException {
         TightFive club = which % 3 == 0 ? new TightFive() : Clubs.heckled();
         TightFive spared = which % 3 == 0 ? new TightFive() : Clubs.heckled();
-        for (int i = 0; i < 240; i++) {
+        for (int i = 0; i < 120; i++) {
             Method method = methods.get(draw(methods.size() - 1));
             Object[] arguments = drawArguments(method);
             String call = "run " + which + ", " + method.getName() + Arrays.toString(arguments);
