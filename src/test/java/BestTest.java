@@ -12,6 +12,9 @@ public final class BestTest {
         tagsAsTold();
         waitOfTwenty();
         persona();
+        seedsForCallbacks();
+        likeSums();
+        rewrittenAndGiven();
         wrongCalls();
         isTrue();
         Check.finish("BestTest");
@@ -163,6 +166,77 @@ public final class BestTest {
         Check.is("only what they have and may tell", club.best(600), 20);
         rowIs("only what they have and may tell", club, 600, 1);
         Check.is("it is true", club.isTrue(), true);
+    }
+
+    private static void seedsForCallbacks() {
+        TightFive club = club(1);
+        club.callback(0, 40, 10);
+        club.give(0, 1);
+        club.table(1, 1, 0, 0);
+        // The seed is 1 and -1, so that moods are less by 5; its callback is 10 more.
+        Check.is("a seed of 0 for its callback", club.best(20), 49 + 47);
+        rowIs("a seed of 0 for its callback", club, 20, 0, 1);
+        Check.is("no seed without seconds for both", club.best(19), 0);
+        rowIs("no seed without seconds for both", club, 19);
+        club.tell(0, 0);
+        Check.is("the seed was told", club.best(10), 96);
+        rowIs("the seed was told", club, 10, 1);
+        TightFive bad = club(50);
+        bad.callback(0, 50, 10);
+        bad.give(0, 1);
+        bad.table(1, 0, 0, 1);
+        bad.table(1, 9, 0, 0);
+        Check.is("the seed alone is above 0", bad.best(10), 50 - 50 + 32);
+        TightFive below = club(5);
+        below.callback(0, 50, 10);
+        below.give(0, 1);
+        below.table(1, 9, 0, 0);
+        Check.is("the seed", below.expect(0), 5 - 13);
+        // Moods of 1 and -3 are less by 5, then go to -5 and -7: the callback is a fifth of those less.
+        Check.is("a seed of -8 for its callback", below.best(20), -8 + (50 - 1 + 10) + (50 - 18 - 1 + 10));
+        rowIs("a seed of -8 for its callback", below, 20, 0, 1);
+    }
+
+    private static void likeSums() {
+        TightFive nothing = club(20);
+        nothing.end();
+        nothing.table(1, 0, 0, 1);
+        nothing.book(0, 0, 60);
+        nothing.next();
+        Check.is("a row of 0", nothing.expect(0), 0);
+        rowIs("the empty row is shorter", nothing, 600);
+        // 20 alone, and 0 of what nobody knows ahead of it or behind it.
+        TightFive silent = club(20, 20);
+        silent.joke(2, 2, 1, 50, 5);
+        silent.give(0, 2);
+        rowIs("without what adds nothing", silent, 600, 0, 1);
+        // Joke 0 is the second one, behind either one of two like jokes: ahead of them, 4 are waited.
+        TightFive like = club(41, 20, 20);
+        rowIs("the lower one of like ones", like, 23, 1, 0);
+        Check.is("its sum", like.best(23), 20 + 41 + 5 / 5);
+        rowIs("with 4 seconds to wait", like, 24, 0, 1);
+        Check.is("its sum", like.best(24), 41 + 20 + 10 / 5);
+        TightFive last = club(20, 20, 20, 20, 20, 20);
+        rowIs("5 of 6 like ones", last, 5 * 10 + 4 * 2, 0, 1, 2, 3, 4);
+        rowIs("1 second less", last, 5 * 10 + 4 * 2 - 1, 0, 1, 2, 3);
+    }
+
+    private static void rewrittenAndGiven() {
+        TightFive club = club(20, 30);
+        rowIs("the greater one", club, 10, 1);
+        club.rewrite(0, 31);
+        rowIs("the one that was rewritten", club, 10, 0);
+        club.joke(2, 2, 0, 32, 10);
+        rowIs("one more is not theirs yet", club, 10, 0);
+        club.give(0, 2);
+        rowIs("one more is theirs", club, 10, 2);
+        club.tag(1, 50, 5);
+        rowIs("with its tag it is too long", club, 14, 2);
+        rowIs("with its tag", club, 15, 1);
+        club.tell(1, 0);
+        // The tag of 51 is told last, for which 5 seconds are waited.
+        rowIs("behind a telling", club, 15, 2);
+        rowIs("without seconds to wait", club, 14);
     }
 
     private static void wrongCalls() {

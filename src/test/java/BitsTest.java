@@ -1,3 +1,5 @@
+import java.util.function.Supplier;
+
 /** Facts and subjects as bits: each one by itself, the first and the last one too. */
 public final class BitsTest {
     public static void main(String[] args) {
@@ -76,8 +78,9 @@ public final class BitsTest {
             Check.is("allows all", allowed(65535, i).expect(0), 20);
             Check.is("a row of what it allows", allowed(just, i).best(10), 20);
             Check.is("no row of what it does not allow", allowed(65535 - just, i).best(10), 0);
-            Check.fails("all but subject " + i, Check.UNSUPPORTED, () -> allowed(65535 - just, subject), c -> c.tell(0, 0));
-            Check.fails("expects it", Check.UNSUPPORTED, () -> allowed(65535 - just, subject), c -> c.expect(0));
+            Supplier<TightFive> others = () -> allowed(65535 - just, subject);
+            Check.fails("all but subject " + i, Check.UNSUPPORTED, others, c -> c.tell(0, 0));
+            Check.fails("expects it", Check.UNSUPPORTED, others, c -> c.expect(0));
             Check.fails("allows none", Check.UNSUPPORTED, () -> allowed(0, subject), c -> c.tell(0, 20));
         }
     }
@@ -85,7 +88,8 @@ public final class BitsTest {
     private static void hadSubjects() {
         for (int i = 0; i < 16; i++) {
             int subject = i;
-            Check.fails("not ahead of the end", Check.ELEMENT, () -> told(subject, false), c -> c.hadBy(subject));
+            Supplier<TightFive> running = () -> told(subject, false);
+            Check.fails("not ahead of the end", Check.ELEMENT, running, c -> c.hadBy(subject));
             TightFive club = told(subject, true);
             Check.is("had", club.hadBy(subject), 0);
             int other = 15 - subject;

@@ -159,7 +159,8 @@ public final class CutsTest {
     }
 
     private static void halfOfMood() {
-        for (int mood : new int[] {-100, -99, -51, -7, -6, -5, -3, -2, -1, 0, 1, 2, 3, 5, 6, 7, 51, 99, 100}) {
+        int[] moods = {-100, -99, -51, -7, -6, -5, -3, -2, -1, 0, 1, 2, 3, 5, 6, 7, 51, 99, 100};
+        for (int mood : moods) {
             TightFive club = Clubs.solo(0, 0, 30);
             club.table(1, 0, 0, 0);
             Clubs.bringTo(club, mood, Clubs.silent(club));

@@ -128,7 +128,8 @@ public final class EmptyAndFullTest {
         }
         Check.is("the last one is a callback", club.callback(14, 20, 10), 15);
         Check.is("the last one is told of", club.told(15), 0);
-        Check.fails("a callback of the last one", Check.STATE, EmptyAndFullTest::jokes, c -> c.callback(15, 20, 10));
+        Check.fails("a callback of the last one", Check.STATE, EmptyAndFullTest::jokes,
+                c -> c.callback(15, 20, 10));
         Check.fails("one more joke", Check.STATE, EmptyAndFullTest::jokes, c -> c.joke(0, 0, 0, 20, 10));
     }
 
@@ -166,7 +167,8 @@ public final class EmptyAndFullTest {
             Check.is("place " + i + " of the best set", club.bestAt(600, i), i);
         }
         Check.is("joke 5 is told", club.tell(5, 0), 20);
-        Check.fails("the 7th of all is not theirs", Check.UNSUPPORTED, EmptyAndFullTest::sixOfSeven, c -> c.tell(6, 0));
+        Check.fails("the 7th of all is not theirs", Check.UNSUPPORTED, EmptyAndFullTest::sixOfSeven,
+                c -> c.tell(6, 0));
         Check.fails("a 7th joke", Check.STATE, EmptyAndFullTest::sixOfSeven, c -> c.give(0, 6));
         Check.fails("the 6th again", Check.UNSUPPORTED, EmptyAndFullTest::sixOfSeven, c -> c.give(0, 5));
     }

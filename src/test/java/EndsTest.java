@@ -113,7 +113,8 @@ public final class EndsTest {
             TightFive club = at(mood);
             int laugh = club.tell(0, 20) / 2;
             Check.is("a laugh at a mood of " + mood, laugh, 40 + mood / 5);
-            Check.is("a mood of " + mood + " and a fourth of it", club.mood(0), Math.min(100, mood + laugh / 4));
+            int due = Math.min(100, mood + laugh / 4);
+            Check.is("a mood of " + mood + " and a fourth of it", club.mood(0), due);
         }
     }
 

@@ -113,7 +113,8 @@ public final class ModelTest {
         Method asked = find(name);
         Method modelled = Model.class.getDeclaredMethod(name, asked.getParameterTypes());
         String due = answer(modelled, model, arguments);
-        Check.is("run " + run + ", " + name + Arrays.toString(arguments), answer(asked, club, arguments), due);
+        String call = "run " + run + ", " + name + Arrays.toString(arguments);
+        Check.is(call, answer(asked, club, arguments), due);
     }
 
     private static String answer(Method method, Object on, Object[] arguments) throws IllegalAccessException {
@@ -139,7 +140,8 @@ public final class ModelTest {
                 return place == 0 ? drawSubjects() : place == 2 ? drawNear(0, 30) : drawNear(0, 100);
             case "table":
                 return place == 0 ? drawNear(1, 12) : place == 1 ? friendly ? 0 : drawNear(0, 9)
-                        : place == 2 ? 255 - drawFacts() : friendly || draw(0, 2) > 0 ? 0 : drawNear(0, 65535);
+                        : place == 2 ? 255 - drawFacts()
+                        : friendly || draw(0, 2) > 0 ? 0 : drawNear(0, 65535);
             case "best":
             case "bestAt":
                 return place == 1 ? drawNear(0, 3) : draw(0, 1) == 0 ? draw(5, 120) : drawNear(5, 600);
@@ -193,7 +195,8 @@ public final class ModelTest {
 
     private int drawOwnJoke() {
         List<Integer> own = model.on() < 0 ? new ArrayList<>() : model.jokesOf(model.on());
-        return own.isEmpty() || draw(0, 29) == 0 ? drawPlace(model.jokes()) : own.get(draw(0, own.size() - 1));
+        boolean any = own.isEmpty() || draw(0, 29) == 0;
+        return any ? drawPlace(model.jokes()) : own.get(draw(0, own.size() - 1));
     }
 
     // Strengths are small as often as great, so that laughs fall on both sides of 0.

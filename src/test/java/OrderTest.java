@@ -102,7 +102,8 @@ public final class OrderTest {
         Check.fails("no table, nobody on", Check.INDEX, Clubs::booked, c -> c.heckle(-1, 'l'));
         Check.fails("no table, there is one", Check.INDEX, Clubs::heckled, c -> c.heckle(2, 'l'));
         Check.fails("no table, kind, there is one", Check.INDEX, Clubs::heckled, c -> c.heckle(2, 'x'));
-        Check.fails("no table of 8, there is one", Check.INDEX, OrderTest::fullAndHeckled, c -> c.heckle(8, 'l'));
+        Check.fails("no table of 8, there is one", Check.INDEX, OrderTest::fullAndHeckled,
+                c -> c.heckle(8, 'l'));
         Check.fails("kind, nobody on", Check.ARGUMENT, Clubs::booked, c -> c.heckle(0, 'j'));
         Check.fails("kind, there is one", Check.ARGUMENT, Clubs::heckled, c -> c.heckle(0, 'i'));
         Check.fails("way, no heckler", Check.ARGUMENT, Clubs::running, c -> c.answer('l'));

@@ -6,6 +6,9 @@ import java.util.function.Supplier;
  * numbered, and the places beside those.
  */
 public final class RangesTest {
+    // An object is good for 512 calls; 128 signs leave enough of them to ask for its state.
+    private static final int SIGNS_A_CLUB = 128;
+
     private interface Call {
         void on(TightFive club, int number);
     }
@@ -112,25 +115,27 @@ public final class RangesTest {
 
     // All signs: those beside the letters, the great letters, and those of which a byte is one.
     private static void kindsAndWays() {
-        TightFive quiet = Clubs.running();
-        TightFive loud = Clubs.heckled();
-        for (int i = 0; i <= Character.MAX_VALUE; i++) {
-            char sign = (char) i;
-            if ("ldw".indexOf(sign) < 0) {
-                Check.is("kind " + i + " is refused", isRefused(quiet, sign, false), true);
-            }
-            if ("jid".indexOf(sign) < 0) {
-                Check.is("way " + i + " is refused", isRefused(loud, sign, true), true);
-            }
+        for (int first = 0; first <= Character.MAX_VALUE; first += SIGNS_A_CLUB) {
+            signsFrom(first, "ldw", false, Clubs::running);
+            signsFrom(first, "jid", true, Clubs::heckled);
         }
-        Check.is("no kind changed anything", Check.stateOf(quiet), Check.stateOf(Clubs.running()));
-        Check.is("no way changed anything", Check.stateOf(loud), Check.stateOf(Clubs.heckled()));
         for (char kind : new char[] {'l', 'd', 'w'}) {
             Check.is("kind " + kind, isRefused(Clubs.running(), kind, false), false);
         }
         for (char way : new char[] {'j', 'i', 'd'}) {
             Check.is("way " + way, isRefused(Clubs.heckled(), way, true), false);
         }
+    }
+
+    private static void signsFrom(int first, String letters, boolean isWay, Supplier<TightFive> setting) {
+        TightFive club = setting.get();
+        for (int i = first; i < first + SIGNS_A_CLUB; i++) {
+            char sign = (char) i;
+            if (letters.indexOf(sign) < 0) {
+                Check.is("sign " + i + " is refused", isRefused(club, sign, isWay), true);
+            }
+        }
+        Check.is("no sign changed anything", Check.stateOf(club), Check.stateOf(setting.get()));
     }
 
     private static void bestSets() {
