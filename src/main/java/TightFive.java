@@ -588,16 +588,17 @@ public final class TightFive {
     }
 
     private int laughOfRoom(Scene at, Joke joke, int part) {
+        int strength = joke.strengthOf(part);
         int sum = 0;
         for (int i = 0; i < tables.size(); i++) {
             Table table = tables.get(i);
             int laugh = 0;
             if (!delivery.lacksSeed && table.knows(joke.facts)) {
                 if (table.minds(joke.subject)) {
-                    laugh = -joke.strengthOf(part);
+                    laugh = -strength;
                     at.groans++;
                 } else {
-                    laugh = laughOfTable(table, at.moodOf(i), joke, part);
+                    laugh = laughOfTable(table, at.moodOf(i), strength, part);
                 }
             }
             at.setLaugh(i, laugh);
@@ -606,8 +607,8 @@ public final class TightFive {
         return sum;
     }
 
-    private int laughOfTable(Table table, int mood, Joke joke, int part) {
-        int laugh = joke.strengthOf(part) + delivery.extra;
+    private int laughOfTable(Table table, int mood, int strength, int part) {
+        int laugh = strength + delivery.extra;
         laugh += mood / 5 + table.cheer() - 2 * table.distance;
         if (delivery.steps && part == 0) {
             laugh -= 10;

@@ -300,5 +300,7 @@ public final class EndsTest {
         Check.is("it takes 30 seconds", emptied(17).best(29), 0);
         Check.is("a row that waits 20 of 21", emptied(18).best(30), 20);
         Check.is("it takes 30 seconds too", emptied(18).best(29), 0);
+        // isTrue has to wait 20 at most as well: by a wait of 21 it would find a greater sum.
+        Check.is("true behind a wait of 21", emptied(18).isTrue(), true);
     }
 }

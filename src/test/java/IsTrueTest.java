@@ -107,10 +107,25 @@ public final class IsTrueTest {
         TightFive on = club(4, 75);
         on.tell(0, 20);
         Check.is("with seconds used", isTrueWithout(on, 3), false);
+        Check.is("joke 1 ahead of joke 0, in 300 seconds", isTrueWithout(backwards(60), 1), false);
+        Check.is("joke 1 ahead of joke 0, in 301 seconds", isTrueWithout(backwards(61), 1), true);
         TightFive above = club(3, 75);
         above.joke(3, 3, 0, 20, 76);
         above.give(0, 3);
         Check.is("a better row of 301 seconds", isTrueWithout(above, 3), true);
+    }
+
+    /** Two jokes, for one head, that fit in 300 seconds if the lesser one is first: it needs no wait. */
+    private static TightFive backwards(int seconds) {
+        TightFive club = Clubs.solo(0, 0, 0);
+        club.table(1, 0, 0, 0);
+        club.joke(0, 0, 0, 50, 90);
+        club.joke(1, 1, 0, 5, 90);
+        club.tag(1, 5, 60);
+        club.tag(1, 5, seconds);
+        club.give(0, 0);
+        club.give(0, 1);
+        return club;
     }
 
     private static void jokesOfWhoIsOn() throws ReflectiveOperationException {

@@ -1,6 +1,10 @@
 import java.io.IOException;
 import java.nio.file.Files;
 import java.nio.file.Path;
+import java.util.ArrayList;
+import java.util.List;
+import java.util.Map;
+import java.util.TreeMap;
 import java.util.regex.Matcher;
 import java.util.regex.Pattern;
 
@@ -24,7 +28,46 @@ public final class LanguageTest {
         }
         Check.is("some twelve classes", count(code, "\\bclass\\b") <= 12, true);
         Check.is("each parameter list is short", longestParameters(code) <= 7, true);
+        depth(code);
         Check.finish("LanguageTest");
+    }
+
+    /** Rule 11: calls that are no recursion go at most eight deep; methods of a name count as one. */
+    private static void depth(String code) {
+        Map<String, String> bodies = bodies(code);
+        Check.is("methods were found", bodies.size() > 80, true);
+        for (String method : bodies.keySet()) {
+            List<String> deepest = deepest(method, bodies, new ArrayList<>());
+            Check.is("at most eight deep: " + deepest, deepest.size() <= 8, true);
+        }
+    }
+
+    private static Map<String, String> bodies(String code) {
+        Map<String, String> bodies = new TreeMap<>();
+        Matcher head = Pattern.compile("(?m)^ {4,8}[\\w ]*?(\\w+)\\([^()]*\\)[\\w\\s,]*\\{").matcher(code);
+        while (head.find()) {
+            String indent = head.group().replaceAll("(?s)\\S.*", "");
+            int end = code.indexOf("\n" + indent + "}", head.end());
+            bodies.merge(head.group(1), code.substring(head.end(), end), String::concat);
+        }
+        bodies.keySet().removeIf(name -> name.matches("if|for|while|switch"));
+        return bodies;
+    }
+
+    private static List<String> deepest(String method, Map<String, String> bodies, List<String> open) {
+        List<String> longest = open;
+        if (!bodies.containsKey(method) || open.contains(method)) {
+            return longest;
+        }
+        List<String> path = new ArrayList<>(open);
+        path.add(method);
+        longest = path;
+        Matcher call = Pattern.compile("\\b(\\w+)\\(").matcher(bodies.get(method));
+        while (call.find()) {
+            List<String> deeper = deepest(call.group(1), bodies, path);
+            longest = deeper.size() > longest.size() ? deeper : longest;
+        }
+        return longest;
     }
 
     private static int count(String code, String word) {
