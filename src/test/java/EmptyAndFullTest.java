@@ -29,12 +29,11 @@ public final class EmptyAndFullTest {
         Check.is("night behind it", club.night(), 1);
         Check.is("checksum behind it", club.checksum(), 7L);
         Check.is("true behind it", club.isTrue(), true);
-        // A share of 0 at first, whatever the price is.
         TightFive other = Clubs.plain();
         other.tell(0, 0);
         other.end();
         other.close();
-        Check.is("a price and a share of 0 at first", other.got(0), 0L);
+        Check.is("nothing is got of no door", other.got(0), 0L);
     }
 
     private static void nothingToNumber() {

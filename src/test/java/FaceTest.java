@@ -62,7 +62,7 @@ public final class FaceTest {
         Check.finish("FaceTest");
     }
 
-    private static String written(Method method) {
+    static String written(Method method) {
         StringBuilder text = new StringBuilder();
         text.append(method.getReturnType().getSimpleName()).append(' ').append(method.getName());
         List<String> types = new ArrayList<>();

@@ -12,7 +12,8 @@ import java.util.List;
  */
 public final class ModelTest {
     private static final int RUNS = 300;
-    private static final int CALLS = 500;
+    // With the two calls at the end that is as many as an object is good for.
+    private static final int CALLS = 510;
     private static final String[] FURNITURE = {"comedian", "joke", "table", "joke", "give", "callback",
         "tag", "give", "give", "joke", "tag", "give"};
 

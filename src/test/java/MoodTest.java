@@ -2,6 +2,7 @@
 public final class MoodTest {
     public static void main(String[] args) {
         threeTables();
+        rowIsNoRing();
         meanIsCutTowardZero();
         upperEndByEachStep();
         lowerEndByEachStep();
@@ -50,6 +51,24 @@ public final class MoodTest {
         Check.is("21, 15 and -40", club.tell(0, 20), -4);
         // 15, 9 and -16, then 10, 4 and -21 go to means of 4, -5 and 4.
         moodsAre("second", club, 9, 2, -15);
+    }
+
+    /** Four tables, one of which a doorman left with a mood of -60; nobody laughs at what is told. */
+    private static TightFive withBadTable(int bad) {
+        TightFive club = club(1, 0);
+        for (int i = 0; i < 4; i++) {
+            club.table(4, 0, 0, 0);
+        }
+        answerTimes(club, 3, bad, 'd');
+        Check.is("nobody knows it", club.tell(1, 0), 0);
+        return club;
+    }
+
+    private static void rowIsNoRing() {
+        // All are less by 5; who has no table of -65 at its side stays.
+        moodsAre("the first one is bad", withBadTable(0), -65 + 15, -5 - 7, -5, -5);
+        moodsAre("the last one is bad", withBadTable(3), -5, -5, -5 - 7, -65 + 15);
+        moodsAre("the second one is bad", withBadTable(1), -5 - 15, -65 + 15, -5 - 7, -5);
     }
 
     private static void meanIsCutTowardZero() {

@@ -46,6 +46,7 @@ public final class PeopleTest {
         Check.fails("joke -1", Check.INDEX, Clubs::running, c -> c.give(0, -1));
         Check.fails("no joke", Check.INDEX, Clubs::running, c -> c.give(0, 3));
         Check.fails("what they have", Check.UNSUPPORTED, Clubs::running, c -> c.give(0, 1));
+        Check.fails("the only one that they have", Check.UNSUPPORTED, Clubs::plain, c -> c.give(0, 0));
         Check.fails("what they have, of 6", Check.UNSUPPORTED, Clubs::full, c -> c.give(0, 5));
         Check.fails("joke 7", Check.STATE, Clubs::full, c -> c.give(0, 6));
     }

@@ -44,14 +44,15 @@ public final class TellTest {
     }
 
     private static void energy() {
-        TightFive club = soloWithTable(3, 20, 49, 0);
+        TightFive club = soloWithTable(4, 20, 49, 0);
         Check.is("energy 49, mood 0", club.tell(0, 0), 24);
         Check.is("energy 44, mood 6", club.tell(1, 20), 25);
         Check.is("energy 39, mood 12", club.tell(2, 20), 25);
         club.end();
         club.book(0, 0, 60);
         club.next();
-        Check.is("energy 49 again, mood 18, halved", club.tell(0, 0), (20 + 4 + 3) / 2);
+        Check.is("energy 49 again, not 34, mood 18", club.tell(3, 0), 20 + 4 + 3);
+        Check.is("energy 44, mood 24, halved", club.tell(0, 20), (20 + 4 + 4) / 2);
         TightFive even = soloWithTable(2, 1, 15, 0);
         even.tell(0, 0);
         Check.is("energy 10", even.tell(1, 0), 1 + 1);
