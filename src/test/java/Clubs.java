@@ -116,7 +116,8 @@ final class Clubs {
     /** Tells a joke of 10 seconds, with waits, until so many seconds are used: 0, or 10 and more. */
     static void use(TightFive club, int joke, int seconds) {
         int left = seconds - club.seconds();
-        while (left > 0) {
+        // An end in sight, for a program that uses no seconds.
+        for (int i = 0; i < 200 && left > 0; i++) {
             int taken = left <= 30 ? left : Math.min(30, left - 10);
             club.tell(joke, taken - 10);
             left = seconds - club.seconds();
@@ -152,7 +153,7 @@ final class Clubs {
         int way = mood - club.mood(0);
         int ups = 0;
         // An up is 8 and a down is 6: with the fewest ups that leave downs to make up the rest.
-        while (8 * ups < way || (8 * ups - way) % 6 != 0) {
+        while (ups < 50 && (8 * ups < way || (8 * ups - way) % 6 != 0)) {
             ups++;
         }
         int downs = (8 * ups - way) / 6;

@@ -10,6 +10,7 @@ public final class IsTrueTest {
         money();
         beatenRows();
         rowsOfSeconds();
+        rowsOfFour();
         jokesOfWhoIsOn();
         Check.finish("IsTrueTest");
     }
@@ -126,6 +127,29 @@ public final class IsTrueTest {
         club.give(0, 0);
         club.give(0, 1);
         return club;
+    }
+
+    /** Four jokes that fit in 300 seconds if one of them, behind which 5 are waited, is the last one. */
+    private static TightFive lastOfFour(int last) {
+        TightFive club = Clubs.solo(0, 0, 0);
+        club.table(1, 0, 0, 0);
+        for (int i = 0; i < 16; i++) {
+            boolean isLast = i == 12 + last;
+            club.joke(i, i, 0, isLast ? 50 : 5, isLast ? 90 : 70);
+        }
+        for (int i = 12; i < 16; i++) {
+            club.give(0, i);
+        }
+        return club;
+    }
+
+    private static void rowsOfFour() throws ReflectiveOperationException {
+        for (int last = 0; last < 4; last++) {
+            String what = "joke " + (12 + last) + " of 12 to 15 is the last one";
+            Check.is(what + ", searched 3 deep", isTrueWithout(lastOfFour(last), 3), false);
+            Check.is(what + ", searched 4 deep", isTrueWithout(lastOfFour(last), 4), true);
+            Check.is(what + " of the best set", lastOfFour(last).bestAt(300, 3), 12 + last);
+        }
     }
 
     private static void jokesOfWhoIsOn() throws ReflectiveOperationException {
