@@ -35,42 +35,65 @@ public final class SentencesTest {
     private static final Path LIST = Path.of("src/test/SENTENCES.md");
     private static final Path TESTS = Path.of("src/test/java");
     private static final Path PROGRAM = Path.of("src/main/java/TightFive.java");
+    private static final String SEEN = "a test fails";
 
-    /** A sentence of the list, with the tests that hold it and the pairs of pieces that spoil it. */
+    /** A sentence of the list, the tests that hold it, and what spoils it. */
     private static final class Item {
         final String sentence;
         final List<String> tests = new ArrayList<>();
-        final List<String[]> spoilings = new ArrayList<>();
+        final List<Spoiling> spoilings = new ArrayList<>();
 
         Item(String sentence) {
             this.sentence = sentence;
         }
     }
 
-    public static void main(String[] args) throws ReflectiveOperationException, IOException {
-        List<Item> items = itemsOf(LIST);
-        List<String> listed = new ArrayList<>();
-        for (Item item : items) {
-            listed.add(item.sentence);
+    /** A piece of the program and another one for its place, by which a sentence does not hold. */
+    private static final class Spoiling {
+        final Item item;
+        final String piece;
+        final String other;
+        String outcome = "not tried";
+
+        Spoiling(Item item, String piece, String other) {
+            this.item = item;
+            this.piece = piece;
+            this.other = other;
         }
-        compare(listed, sentencesOf(DOCUMENT));
-        String program = Files.readString(PROGRAM);
+    }
+
+    public static void main(String[] args) throws IOException {
+        List<Item> items = itemsOf(LIST);
+        compare(items);
+        List<Spoiling> spoilings = new ArrayList<>();
         for (Item item : items) {
             Check.is("tests of: " + item.sentence, item.tests.isEmpty(), false);
             Check.is("spoiled programs of: " + item.sentence, item.spoilings.isEmpty(), false);
             for (String test : item.tests) {
                 Check.is(test + " is there, and is run", isThere(test), true);
             }
-            for (String[] pieces : item.spoilings) {
-                spoil(program, item, pieces);
-            }
+            spoilings.addAll(item.spoilings);
+        }
+        tryAll(spoilings);
+        for (Spoiling spoiling : spoilings) {
+            String what = spoiling.item.sentence + ", spoiled: " + spoiling.piece + " => " + spoiling.other;
+            Check.is(what, spoiling.outcome, SEEN);
         }
         Check.finish("SentencesTest");
     }
 
     // --- the document and the list ---
 
-    private static void compare(List<String> listed, List<String> due) {
+    private static void compare(List<Item> items) throws IOException {
+        if (!Files.exists(DOCUMENT)) {
+            System.out.println("There is no " + DOCUMENT + " to compare the list with.");
+            return;
+        }
+        List<String> listed = new ArrayList<>();
+        for (Item item : items) {
+            listed.add(item.sentence);
+        }
+        List<String> due = sentencesOf(DOCUMENT);
         Check.is("sentences of the document", due.size() > 100, true);
         for (String sentence : due) {
             Check.is("in the list: " + sentence, listed.contains(sentence), true);
@@ -126,18 +149,20 @@ public final class SentencesTest {
 
     private static List<Item> itemsOf(Path list) throws IOException {
         List<Item> items = new ArrayList<>();
+        Item last = null;
         String heading = "";
         for (String line : Files.readAllLines(list)) {
             if (line.startsWith("### ")) {
                 heading = line.substring(4);
             } else if (line.startsWith("- ")) {
-                items.add(new Item(heading + " / " + line.substring(2)));
+                last = new Item(heading + " / " + line.substring(2));
+                items.add(last);
             } else if (line.startsWith("  - tests: ")) {
-                items.get(items.size() - 1).tests.addAll(piecesOf(line));
+                last.tests.addAll(piecesOf(line));
             } else if (line.startsWith("  - spoiled: ")) {
                 List<String> pieces = piecesOf(line);
                 Check.is("two pieces: " + line, pieces.size(), 2);
-                items.get(items.size() - 1).spoilings.add(pieces.toArray(new String[0]));
+                last.spoilings.add(new Spoiling(last, pieces.get(0), pieces.get(1)));
             }
         }
         return items;
@@ -164,14 +189,33 @@ public final class SentencesTest {
 
     // --- spoiled programs ---
 
-    private static void spoil(String program, Item item, String[] pieces) throws ReflectiveOperationException {
-        String what = item.sentence + ", spoiled: " + pieces[0] + " => " + pieces[1];
-        String spoiled = replace(program, pieces[0], pieces[1]);
-        Check.is("stands once in the program: " + pieces[0], spoiled.isEmpty(), false);
-        Map<String, byte[]> classes = spoiled.isEmpty() ? new HashMap<>() : compile(spoiled);
-        Check.is("can be compiled: " + what, classes.isEmpty(), false);
-        if (!classes.isEmpty()) {
-            Check.is("is seen: " + what, isSeen(item.tests, classes), true);
+    /** Tries them side by side; what failing tests print is of no use here. */
+    private static void tryAll(List<Spoiling> spoilings) throws IOException {
+        String program = Files.readString(PROGRAM);
+        PrintStream out = System.out;
+        System.setOut(new PrintStream(OutputStream.nullOutputStream()));
+        spoilings.parallelStream().forEach(spoiling -> spoiling.outcome = outcomeOf(program, spoiling));
+        System.setOut(out);
+    }
+
+    private static String outcomeOf(String program, Spoiling spoiling) {
+        String spoiled = replace(program, spoiling.piece, spoiling.other);
+        if (spoiled.isEmpty()) {
+            return "the piece does not stand just once in the program";
+        }
+        Map<String, byte[]> classes = compile(spoiled);
+        if (classes.isEmpty()) {
+            return "it cannot be compiled";
+        }
+        try (SpoiledLoader loader = new SpoiledLoader(classes)) {
+            for (String test : spoiling.item.tests) {
+                if (fails(loader, test)) {
+                    return SEEN;
+                }
+            }
+            return "no test fails";
+        } catch (ReflectiveOperationException | IOException e) {
+            return e.toString();
         }
     }
 
@@ -187,25 +231,6 @@ public final class SentencesTest {
         }
         String spoiled = program.substring(0, found.start()) + other + program.substring(found.end());
         return found.find() ? "" : spoiled;
-    }
-
-    private static boolean isSeen(List<String> tests, Map<String, byte[]> classes)
-            throws ReflectiveOperationException {
-        PrintStream out = System.out;
-        // What a failing test prints is of no use here.
-        System.setOut(new PrintStream(OutputStream.nullOutputStream()));
-        try (SpoiledLoader loader = new SpoiledLoader(classes)) {
-            for (String test : tests) {
-                if (fails(loader, test)) {
-                    return true;
-                }
-            }
-            return false;
-        } catch (IOException e) {
-            return false;
-        } finally {
-            System.setOut(out);
-        }
     }
 
     private static boolean fails(ClassLoader loader, String test) throws ReflectiveOperationException {
@@ -242,7 +267,9 @@ public final class SentencesTest {
     // --- the compiler, in this machine and without files ---
 
     private static final JavaCompiler COMPILER = ToolProvider.getSystemJavaCompiler();
-    private static final StandardJavaFileManager FILES = COMPILER.getStandardFileManager(null, null, null);
+    // A compiler's files are not to be shared by what goes on side by side.
+    private static final ThreadLocal<StandardJavaFileManager> FILES =
+            ThreadLocal.withInitial(() -> COMPILER.getStandardFileManager(null, null, null));
 
     private static Map<String, byte[]> compile(String program) {
         Map<String, ByteArrayOutputStream> written = new HashMap<>();
@@ -253,7 +280,7 @@ public final class SentencesTest {
                 return program;
             }
         };
-        JavaFileManager files = new ForwardingJavaFileManager<>(FILES) {
+        JavaFileManager files = new ForwardingJavaFileManager<>(FILES.get()) {
             @Override
             public JavaFileObject getJavaFileForOutput(Location location, String name,
                     JavaFileObject.Kind kind, FileObject sibling) {
